@@ -1,0 +1,138 @@
+/** Counts answers that are not due; every refused call must leave all that can be asked as it was. */
+final class Check {
+    interface Call {
+        Object answer();
+    }
+
+    private int asked = 0;
+    private int wrong = 0;
+
+    void is(String what, Object got, Object want) {
+        asked++;
+        if (!want.equals(got)) {
+            wrong++;
+            System.out.println(what + ": answered " + got + ", due is " + want);
+        }
+    }
+
+    void refuses(String what, CloudHall hall, Class<?> want, Call call) {
+        asked++;
+        String before = snapshot(hall);
+        Class<?> thrown = null;
+        try {
+            call.answer();
+        } catch (RuntimeException e) {
+            thrown = e.getClass();
+        }
+        if (thrown != want) {
+            wrong++;
+            System.out.println(what + ": threw " + thrown + ", due is " + want);
+        } else if (!before.equals(snapshot(hall))) {
+            wrong++;
+            System.out.println(what + ": threw, and changed something");
+        }
+    }
+
+    void end() {
+        System.out.println(asked - wrong + " of " + asked + " answers are as due");
+        if (wrong != 0 || asked == 0) {
+            System.exit(1);
+        }
+    }
+
+    static String snapshot(CloudHall h) {
+        StringBuilder all = new StringBuilder();
+        all.append(h.hour()).append(' ').append(h.tickets()).append(' ').append(h.isSafe());
+        addMachines(all, h);
+        addRacks(all, h);
+        addJobs(all, h);
+        addVolumes(all, h);
+        for (int i = 0; i < 4; i++) {
+            all.append(" tenant ").append(h.used(i)).append(' ').append(h.bill(i));
+        }
+        for (int i = 0; i < 3; i++) {
+            all.append(" aisle ").append(h.heat(i));
+        }
+        all.append(" charges ").append(h.charge(0)).append(' ').append(h.charge(1));
+        all.append(" alarms ").append(alarms(h));
+        return all.toString();
+    }
+
+    /** All alarms that are kept, the last one first, each as its sign, what it is about and its cause's index. */
+    static String alarms(CloudHall h) {
+        StringBuilder all = new StringBuilder();
+        all.append(h.alarms());
+        for (int i = 0; i < Math.min(60, h.alarms()); i++) {
+            all.append(' ').append(h.alarm(i)).append(h.alarmOf(i));
+            if (h.causeOf(i) != i) {
+                all.append('<').append(h.causeOf(i));
+            }
+        }
+        return all.toString();
+    }
+
+    /** The states of all machines in one word. */
+    static String states(CloudHall h) {
+        StringBuilder all = new StringBuilder();
+        for (int i = 0; has(h, "machine", i); i++) {
+            all.append(h.stateOf(i));
+        }
+        return all.toString();
+    }
+
+    /** The machines of a job's parts, or its state if it does not run. */
+    static String places(CloudHall h, int job) {
+        if (h.jobState(job) != 'r') {
+            return String.valueOf(h.jobState(job));
+        }
+        StringBuilder all = new StringBuilder();
+        for (int part = 0; part < 6; part++) {
+            try {
+                all.append(part == 0 ? "" : " ").append(h.machineOf(job, part));
+            } catch (IndexOutOfBoundsException e) {
+                return all.toString().trim();
+            }
+        }
+        return all.toString();
+    }
+
+    private static void addMachines(StringBuilder all, CloudHall h) {
+        for (int i = 0; has(h, "machine", i); i++) {
+            all.append(" machine ").append(h.stateOf(i)).append(h.load(i)).append(' ').append(h.stored(i));
+        }
+    }
+
+    private static void addRacks(StringBuilder all, CloudHall h) {
+        for (int i = 0; has(h, "rack", i); i++) {
+            for (int feed = 0; feed < 2; feed++) {
+                all.append(" feed ").append(h.draw(i, feed)).append(h.hasTripped(i, feed));
+            }
+        }
+    }
+
+    private static void addJobs(StringBuilder all, CloudHall h) {
+        for (int i = 0; has(h, "job", i); i++) {
+            all.append(" job ").append(h.jobState(i)).append(h.left(i)).append(' ').append(places(h, i));
+        }
+    }
+
+    private static void addVolumes(StringBuilder all, CloudHall h) {
+        for (int i = 0; has(h, "volume", i); i++) {
+            all.append(" volume ").append(h.copies(i)).append(h.isLost(i));
+        }
+    }
+
+    private static boolean has(CloudHall h, String kind, int number) {
+        try {
+            switch (kind) {
+                case "machine": h.stateOf(number); break;
+                case "rack": h.draw(number, 0); break;
+                case "job": h.jobState(number); break;
+                default: h.copies(number);
+            }
+            return true;
+        } catch (IndexOutOfBoundsException e) {
+            return false;
+        }
+    }
+}
