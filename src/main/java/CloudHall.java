@@ -168,13 +168,13 @@ public final class CloudHall {
         if (ended.state == DONE || ended.state == CANCELLED) {
             throw new IllegalStateException("the job is over");
         }
-        int ran = ended.state == RUNS ? ended.places.length : 0;
+        int ran = 0;
         if (ended.state == RUNS) {
+            ran = ended.places.length;
             ended.stopAs(CANCELLED);
-        } else {
-            ended.state = CANCELLED;
+            lookAtPower();
         }
-        lookAtPower();
+        ended.state = CANCELLED;
         return ran;
     }
 

@@ -19,14 +19,16 @@ final class Check {
         asked++;
         String before = snapshot(hall);
         Class<?> thrown = null;
+        String by = "";
         try {
             call.answer();
         } catch (RuntimeException e) {
             thrown = e.getClass();
+            by = e.getStackTrace()[0].getClassName();
         }
-        if (thrown != want) {
+        if (thrown != want || !by.startsWith("CloudHall")) {
             wrong++;
-            System.out.println(what + ": threw " + thrown + ", due is " + want);
+            System.out.println(what + ": threw " + thrown + " by " + by + ", due is " + want + " by the hall itself");
         } else if (!before.equals(snapshot(hall))) {
             wrong++;
             System.out.println(what + ": threw, and changed something");
@@ -38,6 +40,18 @@ final class Check {
         if (wrong != 0 || asked == 0) {
             System.exit(1);
         }
+    }
+
+    /** Racks in aisles 0, 1, 2, 0 and so on, with machines of 8 cores that take a watt each. */
+    static CloudHall hallOf(int racks, int machinesEach, int breaker) {
+        CloudHall h = new CloudHall();
+        for (int i = 0; i < racks; i++) {
+            h.addRack(i % 3, breaker);
+            for (int j = 0; j < machinesEach; j++) {
+                h.addMachine(i, 8, 1);
+            }
+        }
+        return h;
     }
 
     static String snapshot(CloudHall h) {

@@ -18,19 +18,8 @@ public final class FiguresTest {
         check.end();
     }
 
-    private static CloudHall hallOf(int racks, int machinesEach, int breaker) {
-        CloudHall h = new CloudHall();
-        for (int i = 0; i < racks; i++) {
-            h.addRack(i % 3, breaker);
-            for (int j = 0; j < machinesEach; j++) {
-                h.addMachine(i, 8, 1);
-            }
-        }
-        return h;
-    }
-
     private static void promise38SafeVolumes() {
-        CloudHall h = hallOf(3, 1, 50);
+        CloudHall h = Check.hallOf(3, 1, 50);
         check.is("38 nothing to lose", h.isSafe(), true);
         h.store(2, 1);
         h.store(3, 1);
@@ -46,7 +35,7 @@ public final class FiguresTest {
         h.fail(1);
         h.fail(2);
         check.is("38 nothing left to lose", h.isSafe(), true);
-        CloudHall one = hallOf(1, 1, 50);
+        CloudHall one = Check.hallOf(1, 1, 50);
         one.store(1, 1);
         check.is("38 one copy by wish", one.isSafe(), false);
         one.pull(0, 0, false);
@@ -55,7 +44,7 @@ public final class FiguresTest {
     }
 
     private static void promise38SafeParts() {
-        CloudHall h = hallOf(1, 2, 50);
+        CloudHall h = Check.hallOf(1, 2, 50);
         h.pull(0, 0, false);
         h.pull(1, 1, false);
         check.is("38 one feed each, but no part runs", h.isSafe(), true);
@@ -72,7 +61,7 @@ public final class FiguresTest {
     }
 
     private static void promise38OneBreakerBearsNotAll() {
-        CloudHall h = hallOf(1, 1, 10);
+        CloudHall h = Check.hallOf(1, 1, 10);
         h.submit(0, 1, 6, 40, -1);
         h.pass(1);
         check.is("38 each breaker bears 10", h.isSafe(), true);
@@ -85,9 +74,9 @@ public final class FiguresTest {
         check.is("38 nor this way", h.isSafe(), false);
         h.turnOff(1);
         check.is("38 10 again", h.isSafe(), true);
-        CloudHall idle = hallOf(1, 4, 10);
+        CloudHall idle = Check.hallOf(1, 4, 10);
         check.is("38 16 are too many, but no part runs", idle.isSafe() + " " + idle.draw(0, 1), "true 8");
-        CloudHall other = hallOf(2, 1, 10);
+        CloudHall other = Check.hallOf(2, 1, 10);
         other.submit(0, 1, 6, 40, -1);
         other.pass(1);
         other.addMachine(1, 1, 1);
@@ -96,7 +85,7 @@ public final class FiguresTest {
     }
 
     private static void promise38MainsAndBatteries() {
-        CloudHall h = hallOf(1, 1, 20);
+        CloudHall h = Check.hallOf(1, 1, 20);
         h.submit(0, 1, 4, 40, -1);
         h.pass(1);
         h.setBattery(0, 0);
@@ -110,7 +99,7 @@ public final class FiguresTest {
         check.is("38 now it is alone", h.isSafe(), false);
         h.setBattery(0, 1);
         check.is("38 both live by batteries", h.isSafe(), true);
-        CloudHall both = hallOf(2, 1, 20);
+        CloudHall both = Check.hallOf(2, 1, 20);
         both.submit(0, 2, 4, 40, 1);
         both.pass(1);
         both.setBattery(0, 0);
@@ -121,7 +110,7 @@ public final class FiguresTest {
     }
 
     private static void promise38NothingChanges() {
-        CloudHall h = hallOf(2, 2, 14);
+        CloudHall h = Check.hallOf(2, 2, 14);
         h.store(2, 3);
         h.submit(0, 2, 3, 40, 1);
         h.pass(1);
@@ -133,7 +122,7 @@ public final class FiguresTest {
     }
 
     private static void promise39Bill() {
-        CloudHall h = hallOf(1, 4, 200);
+        CloudHall h = Check.hallOf(1, 4, 200);
         check.refuses("39 tenant -1", h, ILLEGAL, () -> h.bill(-1));
         check.refuses("39 tenant 4", h, ILLEGAL, () -> h.bill(4));
         h.submit(2, 2, 3, 40, -1);
@@ -167,7 +156,7 @@ public final class FiguresTest {
     }
 
     private static void promise40Tickets() {
-        CloudHall h = hallOf(1, 3, 50);
+        CloudHall h = Check.hallOf(1, 3, 50);
         check.is("40 none", h.tickets(), 0);
         h.fail(0);
         h.fail(1);
@@ -206,7 +195,7 @@ public final class FiguresTest {
         check.refuses("41 one starts", h, ARITHMETIC, h::fullness);
         h.fail(0);
         check.refuses("41 one failed", h, ARITHMETIC, h::fullness);
-        CloudHall full = hallOf(1, 1, 50);
+        CloudHall full = Check.hallOf(1, 1, 50);
         full.submit(0, 1, 8, 40, -1);
         full.pass(1);
         check.is("41 all", full.fullness(), 1f);
@@ -231,7 +220,7 @@ public final class FiguresTest {
     }
 
     private static void promise43IsSound() {
-        CloudHall h = hallOf(3, 2, 30);
+        CloudHall h = Check.hallOf(3, 2, 30);
         check.is("43 new", h.isSound() && new CloudHall().isSound(), true);
         h.store(3, 3);
         h.submit(0, 3, 4, 40, 1);
@@ -249,5 +238,21 @@ public final class FiguresTest {
         h.drain(2, true);
         h.pass(5);
         check.is("43 in spite of faults", h.isSound(), true);
+        CloudHall tight = Check.hallOf(1, 1, 12);
+        tight.submit(0, 1, 8, 40, -1);
+        tight.pass(1);
+        for (int feed = 0; feed < 2; feed++) {
+            tight.pull(0, feed, false);
+            check.is("43 a breaker that bears all it can", tight.draw(0, 1 - feed) + " " + tight.isSound(), "12 true");
+            tight.pull(0, feed, true);
+        }
+        CloudHall whole = Check.hallOf(1, 4, 200);
+        whole.submit(0, 4, 8, 40, -1);
+        whole.pass(1);
+        whole.addRack(0, 200);
+        whole.addMachine(1, 8, 1);
+        whole.submit(0, 1, 8, 40, -1);
+        whole.pass(1);
+        check.is("43 a quota that is used up", whole.used(0) + " " + whole.isSound(), "40 true");
     }
 }

@@ -150,6 +150,17 @@ public final class HallTest {
         check.is("5 charge before", h.setBattery(0, 100), 120);
         h.pass(3);
         check.is("5 lessened three times", h.charge(0), 88);
+        h.setMains(0, true);
+        h.setBattery(0, 100);
+        h.setMains(0, false);
+        h.pass(15);
+        check.is("5 lessened by 60", h.charge(0), 40);
+        h.setMains(0, true);
+        h.pass(1);
+        check.is("5 50 more", h.charge(0), 90);
+        h.pass(1);
+        check.is("5 up to the greatest", h.charge(0), 100);
+        h.setMains(0, false);
         h.setBattery(0, 60);
         h.setMains(0, true);
         h.pass(1);

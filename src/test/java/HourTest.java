@@ -12,24 +12,15 @@ public final class HourTest {
         copiesAheadOfMoving();
         movingByRisingMachines();
         powerBehindComingOn();
+        powerAheadOfHeat();
+        powerAheadOfCopies();
         hoursOfTheDay();
         manyHoursAreAsManyTimesOne();
         check.end();
     }
 
-    private static CloudHall hallOf(int racks, int machinesEach, int breaker) {
-        CloudHall h = new CloudHall();
-        for (int i = 0; i < racks; i++) {
-            h.addRack(i % 3, breaker);
-            for (int j = 0; j < machinesEach; j++) {
-                h.addMachine(i, 8, 1);
-            }
-        }
-        return h;
-    }
-
     private static void startsEndFirst() {
-        CloudHall h = hallOf(3, 1, 50);
+        CloudHall h = Check.hallOf(3, 1, 50);
         h.store(2, 2);
         h.fail(0);
         h.turnOff(2);
@@ -40,7 +31,7 @@ public final class HourTest {
     }
 
     private static void batteriesAheadOfJobs() {
-        CloudHall h = hallOf(1, 1, 50);
+        CloudHall h = Check.hallOf(1, 1, 50);
         h.submit(0, 1, 4, 9, -1);
         h.pass(1);
         h.setBattery(0, 12);
@@ -85,7 +76,7 @@ public final class HourTest {
     }
 
     private static void doneAheadOfPlacing() {
-        CloudHall h = hallOf(1, 1, 12);
+        CloudHall h = Check.hallOf(1, 1, 12);
         h.submit(0, 1, 8, 2, -1);
         h.submit(0, 1, 8, 2, -1);
         h.pass(2);
@@ -96,7 +87,7 @@ public final class HourTest {
     }
 
     private static void repairedIsOffInItsHour() {
-        CloudHall h = hallOf(1, 1, 50);
+        CloudHall h = Check.hallOf(1, 1, 50);
         h.submit(0, 1, 1, 9, -1);
         h.fail(0);
         h.repair(0);
@@ -126,7 +117,7 @@ public final class HourTest {
     }
 
     private static void movingByRisingMachines() {
-        CloudHall h = hallOf(1, 3, 50);
+        CloudHall h = Check.hallOf(1, 3, 50);
         h.store(1, 9);
         h.store(1, 8);
         h.drain(0, true);
@@ -163,8 +154,64 @@ public final class HourTest {
         check.is("19 on again, and tripped", Check.states(h) + Check.alarms(h), "+uuu5 p3<3 p2<3 p1<3 b2 h0");
     }
 
+    private static CloudHall almostHotHall() {
+        CloudHall h = new CloudHall();
+        h.addRack(0, 200);
+        h.addRack(1, 200);
+        h.addMachine(0, 16, 9);
+        h.addMachine(1, 1, 1);
+        h.submit(0, 2, 8, 40, -1);
+        h.setCooling(0, 0);
+        h.setCooling(1, 0);
+        h.pass(1);
+        return h;
+    }
+
+    private static void powerAheadOfHeat() {
+        CloudHall h = new CloudHall();
+        for (int i = 0; i < 2; i++) {
+            h.addRack(0, 200);
+            h.addMachine(i, 16, 9);
+        }
+        for (int i = 0; i < 4; i++) {
+            h.submit(0, 1, 8, 40, -1);
+        }
+        h.pass(1);
+        h.setCooling(0, 0);
+        h.pass(1);
+        h.setCooling(0, 117);
+        h.pass(1);
+        h.setCooling(0, 0);
+        h.pull(0, 1, false);
+        h.setMains(0, false);
+        h.setBattery(0, 200);
+        check.is("19 almost hot", h.heat(0) + " " + h.draw(0, 0) + " " + h.draw(1, 0) + Check.states(h), "59 148 74++");
+        h.pass(1);
+        check.is("19 without power it neither heats nor is shut down",
+                h.heat(0) + Check.states(h) + Check.alarms(h), "64uh2 h0 p0");
+    }
+
+    private static void powerAheadOfCopies() {
+        CloudHall h = almostHotHall();
+        h.pass(4);
+        check.is("24 shut down", h.heat(0) + Check.states(h), "62h+");
+        h.addRack(2, 50);
+        h.addMachine(2, 1, 1);
+        h.store(2, 4);
+        h.fail(2);
+        h.pull(0, 0, false);
+        h.pull(0, 1, false);
+        h.setCooling(0, 300);
+        h.pass(1);
+        check.is("19 without power it gets no copy", Check.states(h) + h.stored(0) + h.copies(0), "u+f01");
+        check.is("34 heat, failing, no power", Check.alarms(h), "4 p0 v0<2 f2 h0");
+        h.pull(0, 0, true);
+        h.pass(1);
+        check.is("19 with power it does", Check.states(h) + h.stored(0) + h.copies(0), "++f42");
+    }
+
     private static void hoursOfTheDay() {
-        CloudHall h = hallOf(1, 1, 50);
+        CloudHall h = Check.hallOf(1, 1, 50);
         h.submit(0, 1, 1, 40, -1);
         h.pass(1);
         StringBuilder prices = new StringBuilder();
@@ -187,7 +234,7 @@ public final class HourTest {
     }
 
     private static CloudHall busyHall() {
-        CloudHall h = hallOf(5, 2, 60);
+        CloudHall h = Check.hallOf(5, 2, 60);
         h.setCooling(0, 0);
         h.store(3, 4);
         h.store(2, 5);

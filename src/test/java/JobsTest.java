@@ -26,19 +26,8 @@ public final class JobsTest {
         check.end();
     }
 
-    private static CloudHall hallOf(int racks, int machinesEach, int breaker) {
-        CloudHall h = new CloudHall();
-        for (int i = 0; i < racks; i++) {
-            h.addRack(i % 3, breaker);
-            for (int j = 0; j < machinesEach; j++) {
-                h.addMachine(i, 8, 1);
-            }
-        }
-        return h;
-    }
-
     private static void promise7SetQuota() {
-        CloudHall h = hallOf(1, 4, 200);
+        CloudHall h = Check.hallOf(1, 4, 200);
         int[][] wrong = {{-1, 0}, {4, 0}, {0, -1}, {3, 401}};
         for (int[] w : wrong) {
             check.refuses("7 setQuota " + w[0] + " " + w[1], h, ILLEGAL, () -> h.setQuota(w[0], w[1]));
@@ -67,10 +56,17 @@ public final class JobsTest {
         h.setQuota(0, 7);
         h.pass(1);
         check.is("7 beside those that run", Check.places(h, 2), "3");
+        CloudHall both = Check.hallOf(1, 4, 200);
+        both.setQuota(1, 10);
+        both.submit(1, 1, 6, 9, -1);
+        both.submit(1, 1, 6, 9, -1);
+        both.submit(1, 2, 2, 9, -1);
+        both.pass(1);
+        check.is("7 beside those just placed", Check.places(both, 0) + Check.places(both, 1) + Check.places(both, 2), "0w1 2");
     }
 
     private static void promise8Submit() {
-        CloudHall h = hallOf(1, 1, 200);
+        CloudHall h = Check.hallOf(1, 1, 200);
         int[][] wrong = {{-1, 1, 1, 1, 0}, {4, 1, 1, 1, 0}, {0, 0, 1, 1, 0}, {0, 7, 1, 1, 0}, {0, 1, 0, 1, 0},
             {0, 1, 9, 1, 0}, {0, 1, 1, 0, 0}, {0, 1, 1, 41, 0}, {0, 1, 1, 1, -2}, {0, 1, 1, 1, 10}};
         for (int[] w : wrong) {
@@ -95,7 +91,7 @@ public final class JobsTest {
     }
 
     private static void promise10Cancel() {
-        CloudHall h = hallOf(2, 1, 200);
+        CloudHall h = Check.hallOf(2, 1, 200);
         check.refuses("10 no job", h, NO_SUCH, () -> h.cancel(0));
         h.submit(0, 3, 2, 2, -1);
         h.submit(0, 1, 2, 9, -1);
@@ -117,7 +113,7 @@ public final class JobsTest {
     }
 
     private static void promise28JobState() {
-        CloudHall h = hallOf(1, 1, 200);
+        CloudHall h = Check.hallOf(1, 1, 200);
         check.refuses("28 no job", h, NO_SUCH, () -> h.jobState(0));
         h.submit(0, 1, 1, 1, -1);
         h.submit(0, 1, 1, 1, -1);
@@ -133,7 +129,7 @@ public final class JobsTest {
     }
 
     private static void promise29MachineOf() {
-        CloudHall h = hallOf(2, 1, 200);
+        CloudHall h = Check.hallOf(2, 1, 200);
         check.refuses("29 no job", h, NO_SUCH, () -> h.machineOf(0, 0));
         h.submit(0, 2, 5, 1, -1);
         check.refuses("29 does not run", h, NoSuchElementException.class, () -> h.machineOf(0, 1));
@@ -149,7 +145,7 @@ public final class JobsTest {
     }
 
     private static void promise30Left() {
-        CloudHall h = hallOf(1, 1, 200);
+        CloudHall h = Check.hallOf(1, 1, 200);
         check.refuses("30 no job", h, NO_SUCH, () -> h.left(0));
         h.submit(0, 1, 1, 3, -1);
         check.refuses("30 job -1", h, NO_SUCH, () -> h.left(-1));
@@ -175,7 +171,7 @@ public final class JobsTest {
     }
 
     private static void promise31Used() {
-        CloudHall h = hallOf(2, 3, 200);
+        CloudHall h = Check.hallOf(2, 3, 200);
         check.refuses("31 tenant -1", h, ILLEGAL, () -> h.used(-1));
         check.refuses("31 tenant 4", h, ILLEGAL, () -> h.used(4));
         h.submit(1, 3, 2, 1, -1);
@@ -191,7 +187,7 @@ public final class JobsTest {
     }
 
     private static void placedOnFewestCoresTaken() {
-        CloudHall h = hallOf(2, 2, 200);
+        CloudHall h = Check.hallOf(2, 2, 200);
         h.submit(0, 6, 2, 9, -1);
         h.pass(1);
         check.is("8 fewest cores taken, then the lowest", Check.places(h, 0), "0 1 2 3 0 1");
@@ -238,6 +234,14 @@ public final class JobsTest {
         check.is("8 the second part is too much, by both feeds together", Check.places(h, 1), "w");
         check.is("8 6 watts make 30", Check.places(h, 2), "0");
         check.is("8 no breaker trips", h.hasTripped(0, 0) || h.hasTripped(0, 1), false);
+        for (int feed = 0; feed < 2; feed++) {
+            CloudHall half = Check.hallOf(1, 1, 12);
+            half.setMains(feed, false);
+            half.setBattery(feed, 0);
+            half.submit(0, 1, 8, 9, -1);
+            half.pass(1);
+            check.is("8 one live feed is enough", Check.places(half, 0) + half.draw(0, 1 - feed), "012");
+        }
         CloudHall off = new CloudHall();
         off.addRack(0, 20);
         off.addMachine(0, 8, 1);
@@ -253,7 +257,7 @@ public final class JobsTest {
     }
 
     private static void placedWholeOrNot() {
-        CloudHall h = hallOf(1, 2, 200);
+        CloudHall h = Check.hallOf(1, 2, 200);
         h.submit(0, 3, 5, 9, -1);
         h.submit(0, 2, 8, 9, -1);
         h.pass(1);
@@ -263,7 +267,7 @@ public final class JobsTest {
     }
 
     private static void groupsInRacksOfTheirOwn() {
-        CloudHall h = hallOf(3, 2, 200);
+        CloudHall h = Check.hallOf(3, 2, 200);
         h.submit(0, 2, 1, 9, 4);
         h.submit(1, 1, 1, 9, 4);
         h.submit(1, 1, 1, 9, 4);
@@ -281,6 +285,12 @@ public final class JobsTest {
         h.pass(1);
         check.is("8 a rack of one that is over", Check.places(h, 2), "2");
         check.is("8 groups are apart", h.isSound(), true);
+        CloudHall one = Check.hallOf(1, 2, 200);
+        one.submit(0, 2, 1, 9, 0);
+        one.submit(0, 2, 1, 9, 1);
+        one.submit(0, 2, 1, 9, -1);
+        one.pass(1);
+        check.is("8 groups from 0, -1 is none", Check.places(one, 0) + Check.places(one, 1) + Check.places(one, 2), "ww0 1");
     }
 
     private static void orderByUseOfQuotas() {
@@ -350,7 +360,7 @@ public final class JobsTest {
     }
 
     private static void stoppedAsAWhole() {
-        CloudHall h = hallOf(3, 1, 200);
+        CloudHall h = Check.hallOf(3, 1, 200);
         h.submit(0, 3, 2, 9, 1);
         h.submit(1, 1, 1, 9, -1);
         h.pass(2);

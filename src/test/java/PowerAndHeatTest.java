@@ -13,6 +13,7 @@ public final class PowerAndHeatTest {
         heatCutTowardsZero();
         heatShutsDownAt60();
         heatComesOnAt40();
+        heatOfEachFeed();
         heatComesOnWithoutPower();
         heatRaisesNoAlarmForNone();
         promise25Draw();
@@ -174,6 +175,24 @@ public final class PowerAndHeatTest {
         check.is("24 the job is placed in this hour", Check.places(exact, 0), "0 1 0 1");
         check.is("24 one alarm", Check.alarms(exact), "1 h0");
         check.is("24 its hours stay", exact.left(0), 39);
+    }
+
+    private static void heatOfEachFeed() {
+        for (int feed = 0; feed < 2; feed++) {
+            CloudHall h = new CloudHall();
+            h.addRack(0, 200);
+            h.addMachine(0, 16, 9);
+            h.submit(0, 2, 8, 40, -1);
+            h.pass(1);
+            h.pull(0, 1 - feed, false);
+            h.setCooling(0, 40);
+            h.pass(1);
+            check.is("24 108 by one feed", h.draw(0, feed) + " " + h.heat(0), "148 30");
+            h.pull(0, 1 - feed, true);
+            h.setCooling(0, 0);
+            h.pass(1);
+            check.is("24 148 by both", h.draw(0, feed) + " " + h.heat(0), "74 42");
+        }
     }
 
     private static void heatComesOnWithoutPower() {

@@ -24,19 +24,8 @@ public final class WorksTest {
         check.end();
     }
 
-    private static CloudHall hallOf(int racks, int machinesEach, int breaker) {
-        CloudHall h = new CloudHall();
-        for (int i = 0; i < racks; i++) {
-            h.addRack(i % 3, breaker);
-            for (int j = 0; j < machinesEach; j++) {
-                h.addMachine(i, 8, 1);
-            }
-        }
-        return h;
-    }
-
     private static void promise11Drain() {
-        CloudHall h = hallOf(1, 2, 200);
+        CloudHall h = Check.hallOf(1, 2, 200);
         check.refuses("11 machine -1", h, NO_SUCH, () -> h.drain(-1, true));
         check.refuses("11 machine 2", h, NO_SUCH, () -> h.drain(2, true));
         check.is("11 was not", h.drain(0, true), 0);
@@ -57,7 +46,7 @@ public final class WorksTest {
     }
 
     private static void promise12TurnOff() {
-        CloudHall h = hallOf(2, 1, 200);
+        CloudHall h = Check.hallOf(2, 1, 200);
         check.refuses("12 machine -1", h, NO_SUCH, () -> h.turnOff(-1));
         check.refuses("12 machine 2", h, NO_SUCH, () -> h.turnOff(2));
         h.submit(0, 6, 1, 9, -1);
@@ -80,7 +69,7 @@ public final class WorksTest {
     }
 
     private static void promise12LastCopy() {
-        CloudHall h = hallOf(3, 1, 200);
+        CloudHall h = Check.hallOf(3, 1, 200);
         h.store(2, 1);
         check.is("12 stored on 0 and 1", h.stored(0) + h.stored(1), 2);
         check.is("12 another copy is on", h.turnOff(0), 0);
@@ -109,7 +98,7 @@ public final class WorksTest {
     }
 
     private static void promise13TurnOn() {
-        CloudHall h = hallOf(1, 1, 200);
+        CloudHall h = Check.hallOf(1, 1, 200);
         check.refuses("13 machine -1", h, NO_SUCH, () -> h.turnOn(-1));
         check.refuses("13 machine 1", h, NO_SUCH, () -> h.turnOn(1));
         check.refuses("13 is on", h, STATE, () -> h.turnOn(0));
@@ -130,7 +119,7 @@ public final class WorksTest {
     }
 
     private static void promise13NoPower() {
-        CloudHall h = hallOf(1, 1, 200);
+        CloudHall h = Check.hallOf(1, 1, 200);
         h.turnOff(0);
         h.pull(0, 0, false);
         h.pull(0, 1, false);
@@ -143,7 +132,7 @@ public final class WorksTest {
     }
 
     private static void promise14Pull() {
-        CloudHall h = hallOf(1, 2, 20);
+        CloudHall h = Check.hallOf(1, 2, 20);
         check.refuses("14 machine -1", h, NO_SUCH, () -> h.pull(-1, 0, true));
         check.refuses("14 machine 2, feed 2", h, NO_SUCH, () -> h.pull(2, 2, true));
         check.refuses("14 feed -1", h, ILLEGAL, () -> h.pull(0, -1, true));
@@ -167,7 +156,7 @@ public final class WorksTest {
     }
 
     private static void promise14LastPower() {
-        CloudHall h = hallOf(1, 1, 20);
+        CloudHall h = Check.hallOf(1, 1, 20);
         h.submit(0, 1, 4, 40, -1);
         h.pass(1);
         h.pull(0, 0, false);
@@ -186,9 +175,13 @@ public final class WorksTest {
         h.pull(0, 1, true);
         h.cancel(0);
         h.setBattery(0, 0);
+        h.submit(0, 1, 1, 40, -1);
+        h.pass(1);
+        check.refuses("14 one core is enough", h, UNSUPPORTED, () -> h.pull(0, 1, false));
+        h.cancel(1);
         check.is("14 no part runs", h.pull(0, 1, false), 1);
         check.is("14 without power, though a feed is in", Check.states(h), "u");
-        CloudHall trips = hallOf(1, 3, 20);
+        CloudHall trips = Check.hallOf(1, 3, 20);
         trips.submit(0, 2, 4, 9, -1);
         trips.pass(1);
         trips.pull(0, 0, false);
@@ -199,7 +192,7 @@ public final class WorksTest {
     }
 
     private static void promise15Fail() {
-        CloudHall h = hallOf(3, 1, 200);
+        CloudHall h = Check.hallOf(3, 1, 200);
         check.refuses("15 machine -1", h, NO_SUCH, () -> h.fail(-1));
         check.refuses("15 machine 3", h, NO_SUCH, () -> h.fail(3));
         h.store(3, 1);
@@ -221,7 +214,7 @@ public final class WorksTest {
         check.is("15 one without power", h.fail(2), 2);
         check.is("15 lost", Check.alarms(h).substring(0, 14), "9 l2<2 l0<2 f2");
         check.is("15 volumes", h.isLost(0) && h.isLost(1) && h.isLost(2), true);
-        CloudHall off = hallOf(2, 1, 200);
+        CloudHall off = Check.hallOf(2, 1, 200);
         off.store(2, 1);
         off.turnOff(0);
         check.is("15 one that is off", off.fail(0), 1);
@@ -229,7 +222,7 @@ public final class WorksTest {
     }
 
     private static void promise16Repair() {
-        CloudHall h = hallOf(2, 2, 200);
+        CloudHall h = Check.hallOf(2, 2, 200);
         check.refuses("16 machine -1", h, NO_SUCH, () -> h.repair(-1));
         check.refuses("16 machine 4", h, NO_SUCH, () -> h.repair(4));
         check.refuses("16 has not failed", h, STATE, () -> h.repair(0));
@@ -244,10 +237,12 @@ public final class WorksTest {
         h.pull(2, 1, false);
         h.pass(1);
         check.is("16 in the order in which they were written", Check.states(h) + h.tickets(), "ff-+2");
-        check.is("16 both feeds are in", h.pull(2, 0, true), 2);
+        check.is("16 feed 0 is in", h.pull(2, 1, true), 2);
         check.refuses("16 is repaired", h, STATE, () -> h.repair(2));
+        h.pull(0, 1, false);
         h.pass(1);
         check.is("16 the next", Check.states(h) + h.tickets(), "-f-+1");
+        check.is("16 feed 1 is in", h.pull(0, 0, true), 2);
         h.fail(2);
         check.is("16 failed again", h.repair(2), 2);
         h.pass(2);
@@ -256,7 +251,7 @@ public final class WorksTest {
     }
 
     private static void promise17ResetBreaker() {
-        CloudHall h = hallOf(1, 2, 10);
+        CloudHall h = Check.hallOf(1, 2, 10);
         check.refuses("17 rack -1", h, NO_SUCH, () -> h.resetBreaker(-1, 0));
         check.refuses("17 rack 1, feed 2", h, NO_SUCH, () -> h.resetBreaker(1, 2));
         check.refuses("17 feed -1", h, ILLEGAL, () -> h.resetBreaker(0, -1));
@@ -277,7 +272,7 @@ public final class WorksTest {
     }
 
     private static void promise18SetCrew() {
-        CloudHall h = hallOf(2, 3, 200);
+        CloudHall h = Check.hallOf(2, 3, 200);
         int[][] wrong = {{-1, 0}, {6, 0}, {0, -1}, {0, 51}};
         for (int[] w : wrong) {
             check.refuses("18 setCrew " + w[0] + " " + w[1], h, ILLEGAL, () -> h.setCrew(w[0], w[1]));
@@ -300,7 +295,7 @@ public final class WorksTest {
     }
 
     private static void promise18Spares() {
-        CloudHall h = hallOf(1, 4, 200);
+        CloudHall h = Check.hallOf(1, 4, 200);
         h.setCrew(3, 2);
         for (int i = 3; i >= 0; i--) {
             h.fail(i);
