@@ -614,10 +614,10 @@ public final class CloudHall {
 
     private int drawIn(int aisle) {
         int sum = 0;
-        for (int i = 0; i < racks.size(); i++) {
-            Rack rack = racks.get(i);
-            if (rack.aisle == aisle) {
-                sum += drawOf(rack, 0) + drawOf(rack, 1);
+        for (int i = 0; i < machines.size(); i++) {
+            Machine machine = machines.get(i);
+            if (machine.rack.aisle == aisle && hasPower(machine)) {
+                sum += machine.needs();
             }
         }
         return sum;
