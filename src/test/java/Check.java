@@ -24,7 +24,7 @@ final class Check {
             call.answer();
         } catch (RuntimeException e) {
             thrown = e.getClass();
-            by = e.getStackTrace()[0].getClassName();
+            by = e.getStackTrace().length > 0 ? e.getStackTrace()[0].getClassName() : "";
         }
         if (thrown != want || !by.startsWith("CloudHall")) {
             wrong++;
