@@ -570,15 +570,14 @@ public final class CloudHall {
         }
     }
 
-    // One feed behind the other: a battery that runs out leaves what it bore to the next feed.
+    // What is drawn is counted ahead of any charge that changes, since a battery that runs out
+    // leaves what it bore to the other feed in the next step alone.
     private void useBatteries() {
         for (int i = 0; i < feeds.length; i++) {
-            Feed feed = feeds[i];
-            if (feed.hasMains) {
-                feed.charge = Math.min(feed.greatest, feed.charge + CHARGED_IN_HOUR);
-            } else {
-                feed.charge = Math.max(0, feed.charge - drawOfAll(i));
-            }
+            feeds[i].drawn = drawOfAll(i);
+        }
+        for (int i = 0; i < feeds.length; i++) {
+            feeds[i].useHour();
         }
     }
 
@@ -946,9 +945,14 @@ public final class CloudHall {
         boolean hasMains = true;
         int charge = 300;
         int greatest = 300;
+        int drawn = 0;
 
         boolean givesPower() {
             return hasMains || charge > 0;
+        }
+
+        void useHour() {
+            charge = hasMains ? Math.min(greatest, charge + CHARGED_IN_HOUR) : Math.max(0, charge - drawn);
         }
     }
 

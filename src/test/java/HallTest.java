@@ -188,8 +188,10 @@ public final class HallTest {
         h.setBattery(0, 7);
         h.pass(1);
         check.is("5 a battery that runs out", h.charge(0), 0);
-        check.is("5 leaves all to the next feed", h.charge(1), 294 - 13);
+        check.is("5 the other bears its own half in that hour", h.charge(1), 294 - 6);
         check.is("5 all by the other feed then", h.draw(0, 1), 13);
+        h.pass(1);
+        check.is("5 all by the other battery behind it", h.charge(1), 288 - 13);
     }
 
     private static void promise6SetMains() {
