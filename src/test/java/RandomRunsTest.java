@@ -26,6 +26,7 @@ public final class RandomRunsTest {
         check.is("exceptions that the document does not name", astray, 0);
         check.is("halls that are not sound", unsound, 0);
         refusedCallsChangeNothing();
+        batteriesBearWhatIsDrawn();
         check.end();
     }
 
@@ -54,7 +55,10 @@ public final class RandomRunsTest {
     }
 
     private static String callAny(CloudHall hall) {
-        int kind = any(60);
+        return callAny(hall, any(60));
+    }
+
+    private static String callAny(CloudHall hall, int kind) {
         try {
             call(hall, kind);
             return "";
@@ -182,5 +186,42 @@ public final class RandomRunsTest {
             }
         }
         check.is("refused calls that changed something", changed, 0);
+    }
+
+    /** By each feed without mains, what was drawn by it ahead of the hour; neither feed's end weighs on the other. */
+    private static void batteriesBearWhatIsDrawn() {
+        int wrong = 0;
+        int emptied = 0;
+        for (int run = 0; run < 200; run++) {
+            CloudHall hall = startOf(run);
+            hall.setMains(0, false);
+            hall.setMains(1, run % 4 == 0);
+            for (int i = 0; i < CALLS / 2; i++) {
+                int kind = any(31);
+                if (kind < 5 || kind > 7) {
+                    callAny(hall, kind);
+                }
+                hall.setBattery(any(2), any(40));
+                int due0 = Math.max(0, hall.charge(0) - drawOfAll(hall, 0));
+                int due1 = run % 4 == 0 ? -1 : Math.max(0, hall.charge(1) - drawOfAll(hall, 1));
+                emptied += due0 == 0 && due1 > 0 ? 1 : 0;
+                hall.pass(1);
+                wrong += hall.charge(0) != due0 || due1 >= 0 && hall.charge(1) != due1 ? 1 : 0;
+            }
+        }
+        check.is("charges behind an hour", wrong, 0);
+        check.is("one battery ran out ahead of the other", emptied > 100, true);
+    }
+
+    private static int drawOfAll(CloudHall hall, int feed) {
+        int sum = 0;
+        for (int rack = 0; rack < 8; rack++) {
+            try {
+                sum += hall.draw(rack, feed);
+            } catch (IndexOutOfBoundsException e) {
+                return sum;
+            }
+        }
+        return sum;
     }
 }
