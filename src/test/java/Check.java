@@ -1,4 +1,11 @@
-/** Counts answers that are not due; every refused call must leave all that can be asked as it was. */
+import java.lang.reflect.Array;
+import java.lang.reflect.Field;
+import java.lang.reflect.Modifier;
+import java.util.IdentityHashMap;
+import java.util.List;
+import java.util.Map;
+
+/** Counts answers that are not due; every refused call must leave all there is as it was. */
 final class Check {
     interface Call {
         Object answer();
@@ -17,7 +24,7 @@ final class Check {
 
     void refuses(String what, CloudHall hall, Class<?> want, Call call) {
         asked++;
-        String before = snapshot(hall);
+        String before = snapshot(hall) + innards(hall);
         Class<?> thrown = null;
         String by = "";
         try {
@@ -29,7 +36,7 @@ final class Check {
         if (thrown != want || !by.startsWith("CloudHall")) {
             wrong++;
             System.out.println(what + ": threw " + thrown + " by " + by + ", due is " + want + " by the hall itself");
-        } else if (!before.equals(snapshot(hall))) {
+        } else if (!before.equals(snapshot(hall) + innards(hall))) {
             wrong++;
             System.out.println(what + ": threw, and changed something");
         }
@@ -54,6 +61,39 @@ final class Check {
         return h;
     }
 
+    /** One part of a job of tenant 3 takes these cores of this machine, by letting an hour pass; its job's number. */
+    static int take(CloudHall h, int machine, int cores) {
+        h.setQuota(3, 400);
+        String states = states(h);
+        for (int i = 0; i < states.length(); i++) {
+            if (i != machine && states.charAt(i) != 'f') {
+                h.drain(i, true);
+            }
+        }
+        int job = -1;
+        for (int rest = cores; rest > 0; rest -= 8) {
+            job = h.submit(3, 1, Math.min(8, rest), 40, -1);
+        }
+        h.pass(1);
+        for (int i = 0; i < states.length(); i++) {
+            if (i != machine && states.charAt(i) != 'f') {
+                h.drain(i, false);
+            }
+        }
+        return job;
+    }
+
+    /** Neither the mains nor the battery of a feed give anything from now on. */
+    static void kill(CloudHall h, int feed) {
+        h.setBattery(feed, 0);
+        h.setMains(feed, false);
+    }
+
+    /** What a rack draws by both feeds. */
+    static String draws(CloudHall h, int rack) {
+        return h.draw(rack, 0) + " " + h.draw(rack, 1);
+    }
+
     static String snapshot(CloudHall h) {
         StringBuilder all = new StringBuilder();
         all.append(h.hour()).append(' ').append(h.tickets()).append(' ').append(h.isSafe());
@@ -70,6 +110,52 @@ final class Check {
         all.append(" charges ").append(h.charge(0)).append(' ').append(h.charge(1));
         all.append(" alarms ").append(alarms(h));
         return all.toString();
+    }
+
+    /** All that the hall holds, also what no call tells: quotas, coolings, what is drained, how tickets stand. */
+    static String innards(CloudHall h) {
+        StringBuilder all = new StringBuilder();
+        try {
+            addInnards(all, h, new IdentityHashMap<>());
+        } catch (IllegalAccessException e) {
+            throw new IllegalStateException(e);
+        }
+        return all.toString();
+    }
+
+    private static void addInnards(StringBuilder all, Object part, Map<Object, Integer> met)
+            throws IllegalAccessException {
+        if (part == null || part instanceof Number || part instanceof Boolean || part instanceof Character
+                || part instanceof String) {
+            all.append(part).append(' ');
+        } else if (met.containsKey(part)) {
+            all.append('#').append(met.get(part)).append(' ');
+        } else {
+            met.put(part, met.size());
+            all.append('(');
+            addParts(all, part, met);
+            all.append(") ");
+        }
+    }
+
+    private static void addParts(StringBuilder all, Object whole, Map<Object, Integer> met)
+            throws IllegalAccessException {
+        if (whole instanceof List<?>) {
+            for (Object part : (List<?>) whole) {
+                addInnards(all, part, met);
+            }
+        } else if (whole.getClass().isArray()) {
+            for (int i = 0; i < Array.getLength(whole); i++) {
+                addInnards(all, Array.get(whole, i), met);
+            }
+        } else {
+            for (Field field : whole.getClass().getDeclaredFields()) {
+                if (!Modifier.isStatic(field.getModifiers())) {
+                    field.setAccessible(true);
+                    addInnards(all.append(field.getName()).append('='), field.get(whole), met);
+                }
+            }
+        }
     }
 
     /** All alarms that are kept, the last one first, each as its sign, what it is about and its cause's index. */

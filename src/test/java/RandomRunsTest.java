@@ -179,8 +179,8 @@ public final class RandomRunsTest {
         for (int run = 0; run < 40; run++) {
             CloudHall hall = startOf(run);
             for (int i = 0; i < CALLS; i++) {
-                String before = Check.snapshot(hall);
-                if (callAny(hall).equals("refused") && !before.equals(Check.snapshot(hall))) {
+                String before = Check.snapshot(hall) + Check.innards(hall);
+                if (callAny(hall).equals("refused") && !before.equals(Check.snapshot(hall) + Check.innards(hall))) {
                     changed++;
                 }
             }
