@@ -42,6 +42,24 @@ final class Check {
         }
     }
 
+    /** A machine that is on comes to this state, one of "+-suf". */
+    void brings(CloudHall h, int machine, char state) {
+        if (state == '-' || state == 's') {
+            h.turnOff(machine);
+        }
+        if (state == 's') {
+            h.turnOn(machine);
+        }
+        if (state == 'u') {
+            h.pull(machine, 0, false);
+            h.pull(machine, 1, false);
+        }
+        if (state == 'f') {
+            h.fail(machine);
+        }
+        is("21 as it was brought", h.stateOf(machine), state);
+    }
+
     void end() {
         System.out.println(asked - wrong + " of " + asked + " answers are as due");
         if (wrong != 0 || asked == 0) {
