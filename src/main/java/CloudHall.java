@@ -168,13 +168,9 @@ public final class CloudHall {
         if (ended.state == DONE || ended.state == CANCELLED) {
             throw new IllegalStateException("the job is over");
         }
-        int ran = 0;
-        if (ended.state == RUNS) {
-            ran = ended.places.length;
-            ended.stopAs(CANCELLED);
-            lookAtPower();
-        }
-        ended.state = CANCELLED;
+        int ran = ended.state == RUNS ? ended.places.length : 0;
+        ended.stopAs(CANCELLED);
+        lookAtPower();
         return ran;
     }
 
@@ -399,9 +395,7 @@ public final class CloudHall {
         // tripping, and racks do not weigh on one another, so the breakers stand for mains too.
         for (int i = 0; i < racks.size(); i++) {
             Rack rack = racks.get(i);
-            boolean isLive0 = isLive(rack, 0);
-            boolean isLive1 = isLive(rack, 1);
-            if (rack.wouldStopParts(false, isLive1) || rack.wouldStopParts(isLive0, false)) {
+            if (rack.wouldStopParts(isLive(rack, 0), false) || rack.wouldStopParts(false, isLive(rack, 1))) {
                 return false;
             }
         }
@@ -1002,16 +996,12 @@ public final class CloudHall {
             return sum;
         }
 
-        // Two rounds are enough: what the first leaves in can only trip by what this took out.
+        // One feed is left at the most: it bears all there is, or trips at once.
         boolean wouldStopParts(boolean isLive0, boolean isLive1) {
-            boolean stays0 = isLive0;
-            boolean stays1 = isLive1;
-            for (int round = 0; round < FEEDS; round++) {
-                stays0 = stays0 && drawBy(0, stays0, stays1) <= bears;
-                stays1 = stays1 && drawBy(1, stays0, stays1) <= bears;
-            }
+            boolean bears0 = isLive0 && drawBy(0, isLive0, isLive1) <= bears;
+            boolean bears1 = isLive1 && drawBy(1, isLive0, isLive1) <= bears;
             for (int i = 0; i < machines.size(); i++) {
-                if (machines.get(i).taken > 0 && !machines.get(i).getsPower(stays0, stays1)) {
+                if (machines.get(i).taken > 0 && !machines.get(i).getsPower(bears0, bears1)) {
                     return true;
                 }
             }
@@ -1147,8 +1137,10 @@ public final class CloudHall {
         }
 
         void stopAs(char stateThen) {
-            clearPlaces();
-            tenant.taken -= countCores();
+            if (state == RUNS) {
+                clearPlaces();
+                tenant.taken -= countCores();
+            }
             state = stateThen;
         }
     }

@@ -322,18 +322,27 @@ public final class BoundsOfFiguresTest {
     }
 
     private static void soundByQuotas() throws Exception {
-        for (int quota = 4; quota <= 6; quota++) {
-            CloudHall h = Check.hallOf(1, 1, 50);
-            h.submit(1, 1, 5, 9, -1);
-            h.pass(1);
-            set(partOf(h, "tenants", 1), "quota", quota);
-            check.is("43 5 used of " + quota, h.isSound(), quota >= 5);
-            CloudHall less = Check.hallOf(1, 1, 50);
-            less.submit(1, 1, 5, 9, -1);
-            less.pass(1);
-            less.setQuota(1, quota);
-            check.is("43 5 used of " + quota + ", made less", less.isSound(), true);
+        for (int tenant = 0; tenant < 4; tenant++) {
+            for (int quota = 4; quota <= 6; quota++) {
+                CloudHall h = usingFive(tenant);
+                h.setQuota(tenant, 40);
+                h.setQuota(tenant, 41);
+                set(partOf(h, "tenants", tenant), "quota", quota);
+                check.is("43 5 used of " + quota + ", not made less by a call", h.isSound(), quota >= 5);
+                CloudHall less = usingFive(tenant);
+                less.setQuota(tenant, quota);
+                check.is("43 5 used of " + quota + ", made less", less.isSound(), true);
+                less.setQuota(tenant, 4);
+                check.is("43 5 used of 4, made less", less.isSound(), true);
+            }
         }
+    }
+
+    private static CloudHall usingFive(int tenant) {
+        CloudHall h = Check.hallOf(1, 1, 50);
+        h.submit(tenant, 1, 5, 9, -1);
+        h.pass(1);
+        return h;
     }
 
     private static void askingChangesNothing() {

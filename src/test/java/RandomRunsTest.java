@@ -30,7 +30,12 @@ public final class RandomRunsTest {
         check.end();
     }
 
-    private static int any(int bound) {
+    /** From here on, what is asked of it follows from this number alone. */
+    static void startAt(long number) {
+        seed = number;
+    }
+
+    static int any(int bound) {
         seed = seed * 6364136223846793005L + 1442695040888963407L;
         return (int) Math.floorMod(seed >>> 33, (long) bound);
     }
@@ -43,7 +48,7 @@ public final class RandomRunsTest {
         return least + any(most - least + 1);
     }
 
-    private static CloudHall startOf(int run) {
+    static CloudHall startOf(int run) {
         CloudHall hall = new CloudHall();
         int racks = run % 8 + 1;
         for (int i = 0; i < racks; i++) {
@@ -58,7 +63,7 @@ public final class RandomRunsTest {
         return callAny(hall, any(60));
     }
 
-    private static String callAny(CloudHall hall, int kind) {
+    static String callAny(CloudHall hall, int kind) {
         try {
             call(hall, kind);
             return "";
