@@ -21,6 +21,7 @@ public final class LanguageTest {
         noOtherMemberCanBeSeen();
         noPrivateMethodBearsAPublicName();
         theTextKeepsToTheRules();
+        sizesKeepToTheRules();
         check.end();
     }
 
@@ -94,5 +95,43 @@ public final class LanguageTest {
             imports.add(line.group(1));
         }
         check.is("imports", imports, new TreeSet<>(List.of("java.util.ArrayList", "java.util.NoSuchElementException")));
+    }
+
+    private static void sizesKeepToTheRules() throws Exception {
+        List<Class<?>> all = new ArrayList<>(List.of(CloudHall.class.getDeclaredClasses()));
+        check.is("some twelve classes", all.size() < 12, true);
+        for (Class<?> inside : all) {
+            check.is("private or package-visible " + inside, inside.getModifiers() & (Modifier.PUBLIC | Modifier.PROTECTED), 0);
+            check.is("static " + inside, Modifier.isStatic(inside.getModifiers()), true);
+        }
+        all.add(CloudHall.class);
+        for (Class<?> type : all) {
+            int fields = 0;
+            for (Field field : type.getDeclaredFields()) {
+                fields += Modifier.isStatic(field.getModifiers()) ? 0 : 1;
+            }
+            check.is("some twenty fields " + type, fields <= 20, true);
+            for (Method method : type.getDeclaredMethods()) {
+                check.is("seven parameters " + method, method.getParameterCount() <= 7, true);
+            }
+        }
+        check.is("lines of the longest method", longestMethod() <= 60, true);
+    }
+
+    /** From a line that opens a method, at the indent of a member, to the line that closes it. */
+    private static int longestMethod() throws Exception {
+        int longest = 0;
+        int start = -1;
+        List<String> lines = Files.readAllLines(Path.of("src/main/java/CloudHall.java"));
+        for (int i = 0; i < lines.size(); i++) {
+            if (Pattern.matches(" {4}( {4})?[\\w\\[\\]<> ]+\\(.*", lines.get(i)) && start < 0) {
+                start = i;
+            } else if (Pattern.matches(" {4}( {4})?\\}", lines.get(i)) && start >= 0) {
+                longest = Math.max(longest, i - start + 1);
+                start = -1;
+            }
+        }
+        check.is("methods were found", longest > 10, true);
+        return longest;
     }
 }
